@@ -1,14 +1,26 @@
 /** What the tests share: comparing answers, and making houses and rows. */
 final class Due {
     private static int wrong = 0;
+    private static int compared = 0;
+    private static String about = "";
 
     private Due() {
     }
 
+    /** What is written ahead of each wrong answer from here on. */
+    static void about(String words) {
+        about = words;
+    }
+
+    static int compared() {
+        return compared;
+    }
+
     static void is(String call, long got, long want) {
+        compared++;
         if (got != want) {
             wrong++;
-            System.out.println(call + " answered " + got + ", due is " + want);
+            System.out.println(about + call + " answered " + got + ", due is " + want);
         }
     }
 
