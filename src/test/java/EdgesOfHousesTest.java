@@ -213,6 +213,9 @@ public final class EdgesOfHousesTest {
             Due.write(x, "00000000");
             Edge.aside(x, 1, 72, "all", () -> x.guard(0, 4));
             Edge.aside(x, 1, 0, "none, and NONE is not answered", () -> x.guard(1, 4));
+            GuardFigures y = Due.house("g00 g50", "1");
+            Due.told(y, "asked at once", y.guard(0, 4), 1, 9);
+            Due.told(y, "the other one", y.guard(1, 4), 1, 4);
         });
         Edge.of(12, "BAD.", () -> {
             GuardFigures none = new GuardFigures();

@@ -20,6 +20,10 @@ public final class EdgesOfNoticeTest {
             GuardFigures z = Due.house("g13 g13", "00010000");
             // weights 1, 4, 7, 0, 3, 6, 9, 2: 1 by fives at 1, 5, 7 and 9 at 3
             Edge.aside(z, 12, 15, "the first of them", () -> z.slips(0));
+            GuardFigures again = Due.house("g50 g50", "1");
+            Due.told(again, "of 1", again.slips(0), 4, 3);
+            again.change(0, 2);
+            Due.told(again, "of 2", again.slips(0), 4, 0);
         });
         Edge.of(22, "NONE: there is none.", () -> {
             GuardFigures x = Due.house("e10 g00", "");
@@ -114,6 +118,8 @@ public final class EdgesOfNoticeTest {
             Due.row(x, 0, 77);
             x.at(0, 0);
             Edge.aside(x, 0, 0, "without figures", () -> x.best());
+            GuardFigures own = Due.house("e12 g11 g00", "12");
+            Edge.aside(own, 0, 0, "GUARD 0", () -> own.best());
             GuardFigures last = Due.house("g00 g00 g00 g00 g00 g00 e12", "12");
             Edge.aside(last, 6, 0, "the last of 7", () -> last.best());
             GuardFigures like = Due.house("g00 e12 e14", "12");
@@ -173,6 +179,13 @@ public final class EdgesOfNoticeTest {
             Edge.refused(x, NONE, "nobody NOTICES a thing", () -> x.cover());
             GuardFigures y = Due.house("g10 h10", "12");
             Edge.refused(y, NONE, "the SWAP alone goes by", () -> y.cover());
+            GuardFigures z = Due.house("g20 g20", "5");
+            Edge.refused(z, NONE, "the first SLIP alone goes by", () -> z.cover());
+            z.change(0, 4);
+            Edge.refused(z, NONE, "the last SLIP alone goes by", () -> z.cover());
+            // weights 1, 6, 1: by elevens the JUMP alone goes by
+            GuardFigures jump = Due.house("g15 g15 e15", "112");
+            Edge.refused(jump, NONE, "the JUMP goes by", () -> jump.cover());
         });
         Edge.of(26, "STATE: no GUARDS.", () -> {
             GuardFigures x = new GuardFigures();

@@ -137,6 +137,7 @@ public final class EdgesOfToldTest {
             Due.is("without figures all of them", x.count(5), 127);
             x.add(1);
             Due.is("of 1", x.count(5), 1 << 1 | 1 << 3 | 1 << 6);
+            Due.is("GUARD 0 alone", Due.house("e10 g00", "1").count(5), 1);
             GuardFigures none = Due.house("g00 g50", "1");
             Due.is("none of them", none.count(5), 0);
             Due.is("without GUARDS", new GuardFigures().count(5), 0);

@@ -156,8 +156,9 @@ public final class EdgesOfWriteTest {
             Edge.found(x, SIZE, "9", () -> x.fills(0, 0, 0));
             x.row(0, 40);
             Edge.found(x, SIZE, "40", () -> x.fills(0, 0, 0));
+            x.lay(0, 8, 99);
             x.row(0, 8);
-            Edge.aside(x, 1, 0, "8", () -> x.fills(0, 0, 0));
+            Edge.aside(x, 1, 0, "8, what stood behind them is gone", () -> x.fills(0, 0, 0));
         });
         Edge.of(29, "UNLIKE: a number that is no figure, nor -1, a fourth -1.", () -> {
             GuardFigures x = Due.house("g10 g00", "5");
