@@ -20,6 +20,8 @@ public final class EdgesOfNoticeTest {
             GuardFigures z = Due.house("g13 g13", "00010000");
             // weights 1, 4, 7, 0, 3, 6, 9, 2: 1 by fives at 1, 5, 7 and 9 at 3
             Edge.aside(z, 12, 15, "the first of them", () -> z.slips(0));
+            GuardFigures seven = Due.house("e10e10e10e10e10e10g00", "1");
+            Edge.aside(seven, 9, 0, "the last of 7", () -> seven.slips(6));
             GuardFigures again = Due.house("g50 g50", "1");
             Due.told(again, "of 1", again.slips(0), 4, 3);
             again.change(0, 2);
@@ -55,6 +57,8 @@ public final class EdgesOfNoticeTest {
             // weights 2 apart: those 5 apart go by
             Edge.aside(z, 3, 0, "5 apart", () -> z.swaps(0));
             Edge.refused(z, NONE, "weights 1 apart", () -> z.swaps(1));
+            GuardFigures seven = Due.house("e12e12e12e12e12e12g10", "12");
+            Edge.aside(seven, 1, 0, "the last of 7", () -> seven.swaps(6));
         });
         Edge.of(23, "NONE: there is none.", () -> {
             GuardFigures x = Due.house("g10 g00", "");
@@ -87,6 +91,8 @@ public final class EdgesOfNoticeTest {
             // weights 1, 6, 1, 6, 1: alike, 2 apart
             Edge.aside(z, 3, 0, "alike weights", () -> z.jumps(0));
             Edge.refused(z, NONE, "weights 2 apart", () -> z.jumps(1));
+            GuardFigures seven = Due.house("e12e12e12e12e12e12g10", "123");
+            Edge.aside(seven, 1, 0, "the last of 7", () -> seven.jumps(6));
             GuardFigures between = Due.house("g10 g10", "677");
             Edge.aside(between, 1, 0, "the one between is as one of them", () -> between.jumps(0));
         });

@@ -406,6 +406,7 @@ public final class EdgesOfTermsTest {
                 fault("g11 " + sign + "22", NONE);
             }
             fault("1", 0);
+            fault(" ".repeat(59) + "x", 59);
         });
         of("a figure that is none such", () -> {
             fault("g/1 e22", 1);
@@ -425,6 +426,12 @@ public final class EdgesOfTermsTest {
             fault("g11e", 4);
             fault("g11e2", 5);
             fault("g11e22c", 7);
+            fault(" ".repeat(55) + "g11e2", 60);
+            fault(" ".repeat(56) + "g11e", 60);
+            GuardFigures x = newOne();
+            Due.text(x, 0, "g11e22");
+            Due.text(x, 0, "g11e2");
+            Due.is("what stood behind it is gone", x.fault(0), 5);
         });
         of("or there are less than 2 GUARDS", () -> {
             fault("g11", 3);
